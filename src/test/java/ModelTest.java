@@ -5,7 +5,7 @@ public final class ModelTest {
         "those", "gives", "route", "sum", "passage", "term", "whole", "taken", "brief", "caught", "read", "ways", "hangs",
         "mend", "all", "told"};
     private static final String[] CHANGES = {"piece", "piece", "change", "change", "change", "set", "wish", "wish", "move",
-        "move", "image", "restore", "wipe", "law", "anew"};
+        "move", "set", "set", "image", "restore", "wipe", "law", "anew"};
     private static final String SIGNS = "abcde*:|/@?,nhawtcblu0123456789xz!~";
     private static final int[] ODD = {-1, -2, 8, 99, 100, 101, 31, 32, 255, 256, Integer.MIN_VALUE, Integer.MAX_VALUE};
 
@@ -23,8 +23,9 @@ public final class ModelTest {
         BetweenLaws x = new BetweenLaws();
         Model model = new Model();
         int days = 4 + below(97);
-        for (int call = 0; call < CALLS; ) {
-            if (below(12) == 0) {
+        int call = run % 4 == 0 ? 0 : prepare(run, x, model, days);
+        while (call < CALLS) {
+            if (below(40) == 0) {
                 call += sayText(run, x, model, days);
             } else {
                 boolean change = below(4) == 0;
@@ -33,6 +34,28 @@ public final class ModelTest {
                 call++;
             }
         }
+    }
+
+    /** LAWS and PIECES to begin with, kept in IMAGES, so that most calls find some. */
+    private static int prepare(int run, BetweenLaws x, Model model, int days) {
+        int calls = 0;
+        int laws = 2 + below(7);
+        for (int law = 0; law < laws; law++) {
+            String text = text();
+            for (int i = 0; i < text.length(); i++) ask(run, x, model, "say", new int[] {text.charAt(i), 0, 0});
+            ask(run, x, model, "law", usual("law", days));
+            calls += text.length() + 1;
+        }
+        int pieces = 2 + below(7);
+        for (int piece = 0; piece < pieces; piece++) {
+            ask(run, x, model, "piece", usual("piece", days));
+            ask(run, x, model, "change", new int[] {piece, 1 + below(2), below(days)});
+        }
+        for (int n = 0; n < 2; n++) {
+            ask(run, x, model, "image", new int[] {n, 0, 0});
+            ask(run, x, model, "set", new int[] {below(3), 1, 0});
+        }
+        return calls + 2 * pieces + 4;
     }
 
     /** Says a text, mostly one that stands, and mostly makes a LAW of it. */
@@ -77,12 +100,12 @@ public final class ModelTest {
 
     private static int[] arguments(String name, int days) {
         int[] all = usual(name, days);
-        if (below(15) == 0) all[below(3)] = ODD[below(ODD.length)];
+        if (below(20) == 0) all[below(3)] = ODD[below(ODD.length)];
         return all;
     }
 
     private static int[] usual(String name, int days) {
-        int it = below(below(3) == 0 ? 8 : 4);
+        int it = below(below(3) == 0 ? 8 : 3);
         int day = below(days);
         switch (name) {
             case "law": return new int[] {day, Math.min(100, day + 1 + below(days)), 0};

@@ -90,7 +90,7 @@ public final class PiecesTest {
         BetweenLaws x = new BetweenLaws();
         for (int which = 0; which <= 2; which++) {
             due("15: set(" + which + ", 1)", 0, x.set(which, 1));
-            due("15: told", 1, x.told(3 + which));
+            for (int other = 0; other <= 2; other++) due("15: told", other == which ? 1 : 0, x.told(3 + other));
             due("15: set(" + which + ", 1)", 1, x.set(which, 1));
             due("15: v", OUTSIDE, x.set(which, 2));
             due("15: v", OUTSIDE, x.set(which, -1));

@@ -11,6 +11,7 @@ public final class WordsTest {
         read();
         readOnlyTheFirstEight();
         ways();
+        firstWord();
         hangs();
         wish();
         mendTime();
@@ -19,9 +20,11 @@ public final class WordsTest {
         mendInOrder();
         mendRefused();
         all();
+        allAnswers();
         allWithSettings();
         image();
         told();
+        eightOfEach();
         Checks.close("WordsTest");
     }
 
@@ -177,6 +180,23 @@ public final class WordsTest {
         due("30: unknown ahead of outside", UNKNOWN, x.ways(1, 100));
         due("30: day", OUTSIDE, x.ways(0, 100));
         due("30: day", OUTSIDE, x.ways(0, -1));
+    }
+
+    private static void firstWord() {
+        BetweenLaws x = new BetweenLaws();
+        Checks.law(x, 20, 100, "*:2/a?n");
+        x.piece(10, A);
+        due("29: by the first letter", 2, x.read(0, 50, 0));
+        due("29: by the second letter", NONE, x.read(0, 50, 1));
+        due("29: it is told as ever", 2, x.gives(0, 50));
+        due("30: both", 2, x.ways(0, 50));
+        due("30: it is told as ever", 2, x.gives(0, 50));
+        due("31: on that", 0, x.hangs(50, 0));
+        due("31: one piece", 1, x.hangs(50, 1));
+        due("31: it is told as ever", 2, x.gives(0, 50));
+        Checks.anew(x, 0, "*:2/a");
+        due("31: there is none any more", NONE, x.hangs(50, 0));
+        due("31: so no piece hangs on it", 0, x.hangs(50, 1));
     }
 
     private static void hangs() {
@@ -351,6 +371,23 @@ public final class WordsTest {
         Checks.law(y, 15, 100, "a:7/a");
         y.wish(0, 4);
         mended("itself undone goes behind nothing", y, 5, 20, new int[] {1, 'a', 0, 5});
+        BetweenLaws v = new BetweenLaws();
+        Checks.law(v, 5, 100, "*:1/a");
+        Checks.law(v, 50, 100, "*:2/a,w");
+        Checks.law(v, 0, 100, "*:2/a");
+        v.piece(10, 0);
+        v.change(0, 1, 49);
+        v.wish(0, 2);
+        mended("without w ahead of an undoing", v, 1, 60, new int[] {1, 'a', 0, NONE});
+        BetweenLaws u = new BetweenLaws();
+        u.set(2, 1);
+        Checks.law(u, 50, 100, "*:9/a");
+        Checks.law(u, 0, 20, "*:@2/a");
+        Checks.law(u, 0, 1, "*:3");
+        Checks.law(u, 0, 100, "e:7/a");
+        u.piece(10, 0);
+        u.wish(0, 9);
+        mended("the least law undone", u, 3, 60, new int[] {1, 'a', 0, 1});
         BetweenLaws z = new BetweenLaws();
         z.set(2, 1);
         Checks.law(z, 0, 100, "*:3/a");
@@ -406,6 +443,22 @@ public final class WordsTest {
         due("34: no marks", 0, x.all(30, 1));
         int[][] outside = {{-1, 0}, {100, 0}, {0, 2}, {0, -1}};
         for (int[] call : outside) due("34: outside", OUTSIDE, x.all(call[0], call[1]));
+    }
+
+    private static void allAnswers() {
+        BetweenLaws x = new BetweenLaws();
+        Checks.law(x, 0, 100, "a:61|b:62|c:63|d:99|e:64|*:98/a");
+        due("34: great numbers", 6, x.all(0, 0));
+        Checks.anew(x, 0, "a:1|b:1|c:1|d:1|e:1|*:2/a");
+        due("34: those are forgotten, and no marks are a set, too", 2, x.all(0, 0));
+        Checks.anew(x, 0, "a:0|b:1|c:@0|d:@7|e:0|*:1/a");
+        due("34: 0, 1, a ring, none", 4, x.all(0, 0));
+        due("34: the first day alone", 4, x.all(99, 0));
+        Checks.anew(x, 0, "a:1/a");
+        due("34: 1, none", 2, x.all(99, 0));
+        due("34: what gives nothing, as no law governs", 0, x.all(99, 1));
+        Checks.anew(x, 0, "*:@7/a");
+        due("34: what gives nothing, but a law governs", NONE, x.all(99, 1));
     }
 
     private static void allWithSettings() {
@@ -508,5 +561,45 @@ public final class WordsTest {
         for (int what = 0; what < all.length; what++) due("37: told(" + what + ")", all[what], x.told(what));
         due("37: what", OUTSIDE, x.told(6));
         due("37: what", OUTSIDE, x.told(-1));
+    }
+
+    /** As many LAWS, PIECES, OPEN words as there may be: nothing is left out, and nothing breaks. */
+    private static void eightOfEach() {
+        BetweenLaws x = new BetweenLaws();
+        for (int n = 0; n < 8; n++) {
+            Checks.law(x, 10 * n, 100 - n, "abcde:" + n + "|*:@" + (n + 1) % 8 + "/a?n,t" + n + "c?b,u7");
+            x.piece(10 * n, 31);
+        }
+        due("36: image(0)", 1, x.image(0));
+        due("36: restore(0)", 1, x.restore(0));
+        due("10: all in force", 255, x.force(80, 0));
+        due("10: the last undoes itself", 128, x.force(80, 1));
+        due("10: and no other", 127, x.force(80, 2));
+        due("11: open(-1)", 16, x.open(-1));
+        due("11: open(15)", 71, x.open(15));
+        due("18: the latest not undone", 6, x.governs(7, 80));
+        due("19: all begun", 255, x.those(80, 3));
+        due("22: sum", 48, x.sum(80));
+        due("24: law 6", 66, x.term(6, 60, 1));
+        due("24: law 0 is the last in force", 60, x.term(6, 99, 1));
+        due("23: passages", 13, x.passage(0, -1, 0));
+        due("26: none had ended", 0, x.taken(7));
+        due("27: the fewest days", 7, x.brief(0));
+        due("27: the fewest days", 23, x.brief(1));
+        due("28: all", 255, x.caught(6));
+        due("28: none, it is undone", 0, x.caught(7));
+        due("29: law 3 is the last of the first 8 words", 6, x.read(7, 80, 255));
+        due("30: ways", 1, x.ways(0, 80));
+        due("31: hangs", 0, x.hangs(80, 0));
+        due("33: open", 1, x.mend(7, 80, 0));
+        due("34: 6, none", 2, x.all(80, 0));
+        for (int p = 0; p < 8; p++) x.change(p, 3, 0);
+        due("21: law 6 sends to what is undone", 1, x.route(0, 80, -1));
+        for (int n = 0; n < 8; n++) Checks.anew(x, n, "*:@" + (n + 1) % 8 + "/a");
+        due("19: a ring through all", 255, x.those(80, 2));
+        due("21: a ring through all", 8, x.route(0, 80, -1));
+        due("21: the first", 7, x.route(0, 80, 0));
+        due("21: the last", 6, x.route(0, 80, 7));
+        due("23: passages", 15, x.passage(0, -1, 0));
     }
 }
