@@ -75,8 +75,8 @@ public final class LawsTest {
     }
 
     private static void faults(String[] texts, int[] faults) {
-        BetweenLaws x = new BetweenLaws();
         for (int i = 0; i < texts.length; i++) {
+            BetweenLaws x = new BetweenLaws();
             Checks.say(x, texts[i]);
             due("4: fault() of " + texts[i], faults[i], x.fault());
             due("4: fault() again", faults[i], x.fault());

@@ -10,6 +10,7 @@ public final class ModelTest {
     private static final int[] ODD = {-1, -2, 8, 99, 100, 101, 31, 32, 255, 256, Integer.MIN_VALUE, Integer.MAX_VALUE};
 
     private static long seed;
+    private static int calls;
 
     public static void main(String[] args) {
         int runs = args.length > 0 ? Integer.parseInt(args[0]) : 150;
@@ -23,28 +24,26 @@ public final class ModelTest {
         BetweenLaws x = new BetweenLaws();
         Model model = new Model();
         int days = 4 + below(97);
-        int call = run % 4 == 0 ? 0 : prepare(run, x, model, days);
-        while (call < CALLS) {
+        calls = 0;
+        if (run % 4 != 0) prepare(run, x, model, days);
+        while (calls < CALLS) {
             if (below(40) == 0) {
-                call += sayText(run, x, model, days);
+                sayText(run, x, model, days);
             } else {
                 boolean change = below(4) == 0;
                 String name = change ? CHANGES[below(CHANGES.length)] : QUESTIONS[below(QUESTIONS.length)];
                 ask(run, x, model, name, arguments(name, days));
-                call++;
             }
         }
     }
 
     /** LAWS and PIECES to begin with, kept in IMAGES, so that most calls find some. */
-    private static int prepare(int run, BetweenLaws x, Model model, int days) {
-        int calls = 0;
+    private static void prepare(int run, BetweenLaws x, Model model, int days) {
         int laws = 2 + below(7);
         for (int law = 0; law < laws; law++) {
             String text = text();
             for (int i = 0; i < text.length(); i++) ask(run, x, model, "say", new int[] {text.charAt(i), 0, 0});
             ask(run, x, model, "law", usual("law", days));
-            calls += text.length() + 1;
         }
         int pieces = 2 + below(7);
         for (int piece = 0; piece < pieces; piece++) {
@@ -55,11 +54,10 @@ public final class ModelTest {
             ask(run, x, model, "image", new int[] {n, 0, 0});
             ask(run, x, model, "set", new int[] {below(3), 1, 0});
         }
-        return calls + 2 * pieces + 4;
     }
 
     /** Says a text, mostly one that stands, and mostly makes a LAW of it. */
-    private static int sayText(int run, BetweenLaws x, Model model, int days) {
+    private static void sayText(int run, BetweenLaws x, Model model, int days) {
         StringBuilder text = new StringBuilder(text());
         int spoilt = below(4) == 0 ? 1 + below(2) : 0;
         for (int i = 0; i < spoilt; i++) text.setCharAt(below(text.length()), SIGNS.charAt(below(SIGNS.length())));
@@ -70,7 +68,6 @@ public final class ModelTest {
         if (below(3) == 0) ask(run, x, model, "fault", new int[3]);
         String name = below(4) == 0 ? "anew" : "law";
         ask(run, x, model, name, arguments(name, days));
-        return text.length() + 2;
     }
 
     private static String text() {
@@ -141,7 +138,10 @@ public final class ModelTest {
         return new int[] {it, what, what == 3 ? below(32) : below(5) == 0 ? -1 : below(days)};
     }
 
+    /** What an object answers behind its last call is free: none is asked any more. */
     private static void ask(int run, BetweenLaws x, Model model, String name, int[] a) {
+        if (calls == CALLS) return;
+        calls++;
         String call = "run " + run + ": " + name + "(" + a[0] + ", " + a[1] + ", " + a[2] + ")";
         Checks.due(call, model.answer(name, a[0], a[1], a[2]), Calls.answer(x, name, a[0], a[1], a[2]));
     }
