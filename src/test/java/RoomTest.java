@@ -13,14 +13,13 @@ public final class RoomTest {
 
     public static void main(String[] args) {
         ThreadMXBean bean = (ThreadMXBean) ManagementFactory.getThreadMXBean();
-        long id = Thread.currentThread().getId();
         fill(new BetweenLaws());
-        bean.getThreadAllocatedBytes(id);
-        long start = bean.getThreadAllocatedBytes(id);
+        bean.getCurrentThreadAllocatedBytes();
+        long start = bean.getCurrentThreadAllocatedBytes();
         BetweenLaws x = new BetweenLaws();
-        long made = bean.getThreadAllocatedBytes(id);
+        long made = bean.getCurrentThreadAllocatedBytes();
         fill(x);
-        long filled = bean.getThreadAllocatedBytes(id);
+        long filled = bean.getCurrentThreadAllocatedBytes();
         Checks.due("the constructor makes too much: " + (made - start), 1, made - start <= MOST_OF_CONSTRUCTOR ? 1 : 0);
         Checks.due("calls make too much: " + (filled - made), 1, filled - made <= MOST_OF_CALLS ? 1 : 0);
         Checks.close("RoomTest");
